@@ -723,10 +723,12 @@ public final class EarwigPost {
 
         // What sleeper i would believe in night n of all flowers that are sent to a pillow, and of one more.
         int believedOn(int pillow, int i, int oneMore, int n) {
+            int kind = sleepers.cell(i, KIND);
+            int wool = sleepers.cell(i, WOOL);
             int all = 0;
             for (int f = 0; f < flowers.size(); f++) {
                 if (flowers.cell(f, SENT_TO) == pillow || f == oneMore) {
-                    all += believedOf(i, f, n);
+                    all += belief(kind, toldBy(f, n), wool);
                 }
             }
             return all;
