@@ -184,7 +184,7 @@ final class NightsTest {
         }
         x.nights(2);
         x.swaps(0, 5);
-        x.sends(5, 2);
+        x.sends(5, 3);
         x.sends(0, 5);
         long before = x.digest();
         x.nights(3);
@@ -197,7 +197,7 @@ final class NightsTest {
         }
         Check.due("the nights of six undone", x.undo(), 2);
         int[] lies = {5, 1, 2, 3, 4, 0};
-        int[] sentTo = {5, 1, 2, 3, 4, 2};
+        int[] sentTo = {5, 1, 2, 3, 4, 3};
         for (int i = 0; i < 6; i++) {
             Check.due("wool of " + i, x.of(i, 2), 6 - i);
             Check.due("mind of " + i, x.of(i, 3), 6);
