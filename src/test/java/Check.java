@@ -1,3 +1,7 @@
+import java.io.IOException;
+import java.nio.file.Files;
+import java.nio.file.Path;
+
 /** Counts the answers that are due and those that are not, and prints the latter. */
 final class Check {
     private static int passed = 0;
@@ -9,6 +13,20 @@ final class Check {
 
     static void part(String name) {
         part = name;
+    }
+
+    /** What follows tests a sentence of the document: if its words are others by now, the test is to be looked at. */
+    static void says(String words) {
+        part = words;
+        holds("the document does not say so (any more)", document().contains(words));
+    }
+
+    private static String document() {
+        try {
+            return Files.readString(Path.of("../shared/DOC.md"));
+        } catch (IOException e) {
+            return "";
+        }
     }
 
     static void due(String call, long got, long want) {
