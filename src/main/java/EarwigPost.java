@@ -1368,7 +1368,7 @@ public final class EarwigPost {
         void splitText() {
             tokens.empty();
             place = 0;
-            while (place < text.size()) {
+            for (int k = 0; k < text.size() && place < text.size(); k++) {
                 if (isLetter()) {
                     takeWord();
                 } else if (isFigure()) {

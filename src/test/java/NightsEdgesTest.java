@@ -160,6 +160,33 @@ final class NightsEdgesTest {
         }
     }
 
+    private static void undoOfAllSix() {
+        EarwigPost x = Given.told("sleeper0 1;sleeper0 2;sleeper0 3;sleeper0 4;sleeper0 5;sleeper0 6;");
+        for (int f = 0; f < 6; f++) {
+            x.flower(f, 9 - f, f);
+        }
+        x.nights(2);
+        x.image(0);
+        long before = x.digest();
+        for (int i = 0; i < 6; i++) {
+            int next = (i + 1) % 6;
+            x.from(0);
+            x.wool(i, 9);
+            x.sends(i, next);
+            x.swaps(i, next);
+            x.nights(1);
+            x.undo();
+            x.undo();
+            Check.due("pillow of " + i, x.of(i, 1), i);
+            Check.due("flower " + i + " is sent", x.about(i, 2), next);
+            x.undo();
+            Check.due("flower " + i + " is not sent", x.about(i, 2), i);
+            Check.due("wool of " + i, x.of(i, 2), 9);
+            x.undo();
+            Check.due("all as ahead of the changes of " + i, x.digest(), before);
+        }
+    }
+
     private static void eightAtMost() {
         Check.says("8 at most");
         EarwigPost x = Given.told("sleeper0 0;flower0 1 0;");
@@ -267,6 +294,7 @@ final class NightsEdgesTest {
         wool();
         sends();
         undo();
+        undoOfAllSix();
         eightAtMost();
         behindWhoComes();
         of();

@@ -234,6 +234,35 @@ final class RefusedTest {
         dueAsTwin();
     }
 
+    private static void theFirstOfThem() {
+        Check.says("the first of: BAD -2 a number is not as told; NO -3 as told; FULL -4");
+        full();
+        refused("no kind for a 7th sleeper", BAD, x -> x.sleeper(6));
+        refused("no word for a 7th flower", BAD, x -> x.flower(0, 0, 0));
+        refused("no 151st byte", BAD, x -> x.type(128));
+        refused("nobody for a 6th rose", BAD, x -> x.rose(6, 0, 0));
+        refused("no word for a 7th note", BAD, x -> x.note(0, 0, 0, 0));
+        refused("no wool for a 7th mark", BAD, x -> x.mark(0, 0, 10, 0));
+        refused("no pillow, which it is sent to already", BAD, x -> x.sends(0, 6));
+        refused("no wool", BAD, x -> x.wool(0, -1));
+        refused("no image, none was kept", BAD, x -> x.from(2));
+        empty();
+        refused("alike pillows where nobody lies", BAD, x -> x.swaps(2, 2));
+        refused("no pillow, nobody lies there", BAD, x -> x.swaps(0, 6));
+        refused("wool of nobody, as it is", BAD, x -> x.wool(0, 0));
+        refused("no flower, sent there", BAD, x -> x.sends(0, 0));
+
+        Check.says("STATUS: how many calls were refused as BAD, NO, FULL (each answer told so below is such a one).");
+        empty();
+        for (int k = 1; k <= 100; k++) {
+            refused("BAD again", BAD, x -> x.sleeper(-1));
+            refused("NO again", NO, x -> x.undo());
+        }
+        Check.due("status(0)", post.status(0), 100);
+        Check.due("status(1)", post.status(1), 100);
+        Check.due("status(2)", post.status(2), 0);
+    }
+
     private static void asking() {
         Check.says("(Nothing is changed by these;");
         full();
@@ -269,6 +298,7 @@ final class RefusedTest {
         bad();
         no();
         fullOnes();
+        theFirstOfThem();
         asking();
         Check.end();
     }

@@ -70,6 +70,9 @@ final class SentEdgesTest {
         dueSets(x, 0, 0, -1, 0);
         x.sleeper(0);
         dueSets(x, 1, 64, 0, 63);
+        x.rose(1, 1, 1);
+        dueSets(x, 1, 1, 1, 1);
+        dueSets(x, 0, 0, -1, 0);
     }
 
     private static void dueSets(EarwigPost x, int i, int many, int all, int some) {
@@ -412,6 +415,15 @@ final class SentEdgesTest {
         // by seed 999999 flower 0 is the 9th to be sent, to 4
         Check.due("eight that are not there", x.decades(999999, 8), 1);
         Check.due("the 9th is there", x.decades(999999, 9), 2);
+
+        Check.says("FLOWER X by 65536 (cut), by 6 left over (not there: none), is sent to PILLOW X by 1048576 (cut), "
+            + "by 6 left over");
+        // by seed 501379 X is 1605 times 1048576: flower 0 to 3
+        x = Given.told("sleeper5 0;swap0 3;flower0 9 5;");
+        Check.due("nothing is left over", x.decades(501379, 1), 1);
+        // by seed 899870 X is one less than 193 times 1048576: flower 3 to 0
+        x = Given.told("sleeper5 0;flower0 1 5;flower0 1 5;flower0 1 5;flower0 9 5;");
+        Check.due("as much as can be is left over", x.decades(899870, 1), 1);
     }
 
     public static void main(String[] args) {

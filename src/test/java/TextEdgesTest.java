@@ -190,6 +190,12 @@ final class TextEdgesTest {
         dueFault("offic;", 0);
         dueFault("offices;", 0);
         dueFault("offic", 0);
+        dueFault("effice;", 0);
+        dueFault("officf;", 0);
+        dueFault("office;tleeper 0 0;", 7);
+        dueFault("office;glower 0 1 0;", 7);
+        dueFault("office;zwap 0 1;", 7);
+        dueFault("office;mights 1;", 7);
         dueFault("office;sleepers 0 0;", 7);
         dueFault("office;sleepe 0 0;", 7);
         dueFault("office;flowers 0 1 0;", 7);
