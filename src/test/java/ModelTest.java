@@ -2,7 +2,7 @@ import java.util.Random;
 
 /** Many runs of calls drawn by a seed, each answer against the model's; then numbers far out of bounds. */
 final class ModelTest {
-    private static final int CALLS = 39;
+    private static final int KINDS_OF_CALLS = 39;
     private static final String[] WORDS = {"office", "sleeper", "flower", "swap", "nights", ";", " ", "0", "1", "2",
         "3", "4", "5", "9", "10", "99", "100", "05", "off", "x", "#", "\t"};
     private static final String[] PIECES = {"sleeper %d %d;", "flower %d %d %d;", "swap %d %d;", "nights %d;",
@@ -12,6 +12,7 @@ final class ModelTest {
     private final EarwigPost post = new EarwigPost();
     private final Model model = new Model();
     private final boolean wild;
+    private int calls = 0;
 
     private ModelTest(long seed, boolean wild) {
         random = new Random(seed);
@@ -53,6 +54,7 @@ final class ModelTest {
 
     private void readSome() {
         String s = text();
+        calls += s.length() + 1;
         due("clear()", post.clear(), model.clear());
         for (int k = 0; k < s.length(); k++) {
             due("type", post.type(s.charAt(k)), model.type(s.charAt(k)));
@@ -61,6 +63,7 @@ final class ModelTest {
     }
 
     private void call(int which) {
+        calls += 3;
         int a = draw(5);
         int b = draw(5);
         switch (which) {
@@ -110,6 +113,7 @@ final class ModelTest {
     // What is really believed or told is drawn mostly, as else next to nothing would fit.
     private void rose(int i, int n) {
         int x = draw(200);
+        calls += 22;
         if (random.nextInt(4) != 0 && model.of(i, 0) >= 0 & post.of(i, 0) >= 0) {
             x = 0;
             for (int f = 0; f < 6; f++) {
@@ -145,16 +149,17 @@ final class ModelTest {
         due("sleeper", post.sleeper(kind), model.sleeper(kind));
     }
 
-    private void run(int calls) {
-        for (int k = 0; k < calls; k++) {
-            call(random.nextInt(CALLS));
+    // An object is promised for 512 calls; the dearest turn takes less than 160.
+    private void run() {
+        while (calls < 350) {
+            call(random.nextInt(KINDS_OF_CALLS));
         }
     }
 
     public static void main(String[] args) {
-        for (int seed = 0; seed < 1500 && Check.failed() < 20; seed++) {
+        for (int seed = 0; seed < 4000 && Check.failed() < 20; seed++) {
             Check.part("run by seed " + seed);
-            new ModelTest(seed, seed % 5 == 4).run(250);
+            new ModelTest(seed, seed % 5 == 4).run();
         }
         Check.end();
     }

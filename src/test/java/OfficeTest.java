@@ -135,39 +135,55 @@ final class OfficeTest {
         Check.due("read() of '" + text + "'", Check.readText(x, text), want);
     }
 
+    /** Each text is read by an object of its own, in which all stays, if there is a fault. */
+    private static EarwigPost due(String text, int want) {
+        EarwigPost x = new EarwigPost();
+        x.sleeper(4);
+        x.nights(1);
+        due(x, text, want);
+        if (want < 0) {
+            Check.due("all stays: sleepers", x.count(0), 1);
+            Check.due("all stays: nights", x.count(2), 1);
+            Check.due("all stays: kind", x.of(0, 0), 4);
+            Check.due("all stays: undo", x.count(8), 1);
+            Check.due("a fault is no refusal", x.status(0) + x.status(1) + x.status(2), 0);
+        }
+        return x;
+    }
+
     private static void readItems() {
         Check.part("promise 7, items");
-        EarwigPost x = new EarwigPost();
-        due(x, "office;", 1);
-        due(x, "  office  ;  ", 1);
+        EarwigPost x;
+        x = due("office;", 1);
+        x = due("  office  ;  ", 1);
         Check.due("nobody", x.count(0), 0);
-        due(x, "office;sleeper5 9;flower0 09 05;nights1;", 4);
+        x = due("office;sleeper5 9;flower0 09 05;nights1;", 4);
         Check.due("kind", x.of(0, 0), 5);
         Check.due("wool", x.of(0, 2), 9);
         Check.due("word", x.about(0, 1), 9);
         Check.due("pillow", x.about(0, 2), 5);
         Check.due("night", x.count(2), 1);
-        due(x, "office;flower 0 4 0;sleeper 0 1;nights 2;swap 0 3;nights 5;swap 3 0;swap 1 2;sleeper 1 0;nights 10;", 10);
+        x = due("office;flower 0 4 0;sleeper 0 1;nights 2;swap 0 3;nights 5;swap 3 0;swap 1 2;sleeper 1 0;nights 10;", 10);
         Check.due("mind", x.of(0, 3), 3 * 2 + 3 * 10);
         Check.due("mind of one that came later", x.of(1, 3), 0);
         Check.due("pillow of one that came later", x.of(1, 1), 1);
         Check.due("nights", x.count(2), 17);
-        due(x, "office;flower 5 1 0;flower 4 2 1;flower 3 3 2;", 4);
+        x = due("office;flower 5 1 0;flower 4 2 1;flower 3 3 2;", 4);
         for (int f = 0; f < 3; f++) {
             Check.due("kind of a flower", x.about(f, 0), 5 - f);
             Check.due("word of a flower", x.about(f, 1), f + 1);
             Check.due("pillow of a flower", x.about(f, 2), f);
         }
-        due(x, "office;sleeper 2 0;swap 5 0;swap 5 0;swap 1 0;", 5);
+        x = due("office;sleeper 2 0;swap 5 0;swap 5 0;swap 1 0;", 5);
         Check.due("moved and moved again", x.of(0, 1), 1);
-        due(x, "office;sleeper 0 0;swap 0 5;sleeper 1 0;", 4);
+        x = due("office;sleeper 0 0;swap 0 5;sleeper 1 0;", 4);
         Check.due("the first was moved", x.of(0, 1), 5);
         Check.due("the second lies where he lay", x.of(1, 1), 0);
-        due(x, "office;nights99;nights99;nights99;nights99;nights99;nights99;nights99;nights99;nights99;"
+        x = due("office;nights99;nights99;nights99;nights99;nights99;nights99;nights99;nights99;nights99;"
             + "nights99;nights 9;sleeper0 0;flower0 9 0;nights2;", 15);
         Check.due("no night behind the 999th", x.count(2), 999);
         Check.due("999 were reached with him", x.of(0, 3), 0);
-        due(x, "office;nights99;nights99;nights99;nights99;nights99;nights99;nights99;nights99;nights99;"
+        x = due("office;nights99;nights99;nights99;nights99;nights99;nights99;nights99;nights99;nights99;"
             + "nights99;sleeper0 0;flower0 3 0;nights 50;", 14);
         Check.due("999 again", x.count(2), 999);
         Check.due("nine nights with him", x.of(0, 3), 27);
@@ -203,79 +219,71 @@ final class OfficeTest {
 
     private static void faults() {
         Check.part("promise 7, faults");
-        EarwigPost x = new EarwigPost();
-        x.sleeper(4);
-        x.nights(1);
-        due(x, "", -10);
-        due(x, "   ", -13);
-        due(x, "office", -16);
-        due(x, "office  ", -18);
-        due(x, "offic", -10);
-        due(x, "offices;", -10);
-        due(x, "Office;", -10);
-        due(x, "oFfice;", -10);
-        due(x, "xffice;", -10);
-        due(x, "offico;", -10);
-        due(x, "office;oleeper 0 0;", -17);
-        due(x, "office;clower 0 1 0;", -17);
-        due(x, "office;xwap 0 1;", -17);
-        due(x, "office;mights 1;", -17);
-        due(x, " sleeper 0 0;", -11);
-        due(x, ";office;", -10);
-        due(x, "1 office;", -10);
-        due(x, "office;;", -17);
-        due(x, "office 1;", -17);
-        due(x, "office;office;", -17);
-        due(x, "office; nobody;", -18);
-        due(x, "office;1", -17);
-        due(x, "office;sleeper", -24);
-        due(x, "office;sleeper;", -24);
-        due(x, "office;sleeper 6 0;", -25);
-        due(x, "office;sleeper 5 10;", -27);
-        due(x, "office;sleeper 5 9", -28);
-        due(x, "office;sleeper 5 9 ", -29);
-        due(x, "office;sleeper 5 9 0;", -29);
-        due(x, "office;sleeper 5 9 sleeper", -29);
-        due(x, "office;sleeper 59;", -25);
-        due(x, "office;sleeper 000 0;", -25);
-        due(x, "office;sleeper 0 005;", -27);
-        due(x, "office;sleeper -1 0;", -25);
-        due(x, "office;sleeper x 0;", -25);
-        due(x, "office;sleeper 0\t0;", -26);
-        due(x, "office;flower 6 1 0;", -24);
-        due(x, "office;flower 0 0 0;", -26);
-        due(x, "office;flower 0 10 0;", -26);
-        due(x, "office;flower 0 1 6;", -28);
-        due(x, "office;flower 0 1;", -27);
-        due(x, "office;swap 6 0;", -22);
-        due(x, "office;swap 0 6;", -24);
-        due(x, "office;swap 3 3;", -24);
-        due(x, "office;swap 3 03;", -24);
-        due(x, "office;nights 0;", -24);
-        due(x, "office;nights 00;", -24);
-        due(x, "office;nights 100;", -24);
-        due(x, "office;nights 1 1;", -26);
-        due(x, "office;nights1", -24);
-        due(x, "office;nights 1;night", -26);
-        due(x, "office;nights 1;#", -26);
-        due(x, "office;nights 1; " + (char) 127, -27);
-        due(x, "office;nights 1; " + (char) 0, -27);
-        due(x, "office 123", -17);
-        due(x, "office;sleeper0 0;sleeper0 0;sleeper0 0;sleeper0 0;sleeper0 0;sleeper0 0;sleeper", -83);
-        due(x, "office;flower0 1 0;flower0 1 0;flower0 1 0;flower0 1 0;flower0 1 0;flower0 1 0;flower", -89);
-        Check.due("all stays: sleepers", x.count(0), 1);
-        Check.due("all stays: nights", x.count(2), 1);
-        Check.due("all stays: kind", x.of(0, 0), 4);
-        Check.due("all stays: undo", x.count(8), 1);
-        Check.due("a fault is no refusal", x.status(0) + x.status(1) + x.status(2), 0);
-        due(x, "office;sleeper0 0;sleeper0 0;sleeper0 0;sleeper0 0;sleeper0 0;sleeper0 0;", 7);
-        due(x, "office;flower0 1 0;flower0 1 0;flower0 1 0;flower0 1 0;flower0 1 0;flower0 1 0;", 7);
+        due("", -10);
+        due("   ", -13);
+        due("office", -16);
+        due("office  ", -18);
+        due("offic", -10);
+        due("offices;", -10);
+        due("Office;", -10);
+        due("oFfice;", -10);
+        due("xffice;", -10);
+        due("offico;", -10);
+        due("office;oleeper 0 0;", -17);
+        due("office;clower 0 1 0;", -17);
+        due("office;xwap 0 1;", -17);
+        due("office;mights 1;", -17);
+        due(" sleeper 0 0;", -11);
+        due(";office;", -10);
+        due("1 office;", -10);
+        due("office;;", -17);
+        due("office 1;", -17);
+        due("office;office;", -17);
+        due("office; nobody;", -18);
+        due("office;1", -17);
+        due("office;sleeper", -24);
+        due("office;sleeper;", -24);
+        due("office;sleeper 6 0;", -25);
+        due("office;sleeper 5 10;", -27);
+        due("office;sleeper 5 9", -28);
+        due("office;sleeper 5 9 ", -29);
+        due("office;sleeper 5 9 0;", -29);
+        due("office;sleeper 5 9 sleeper", -29);
+        due("office;sleeper 59;", -25);
+        due("office;sleeper 000 0;", -25);
+        due("office;sleeper 0 005;", -27);
+        due("office;sleeper -1 0;", -25);
+        due("office;sleeper x 0;", -25);
+        due("office;sleeper 0\t0;", -26);
+        due("office;flower 6 1 0;", -24);
+        due("office;flower 0 0 0;", -26);
+        due("office;flower 0 10 0;", -26);
+        due("office;flower 0 1 6;", -28);
+        due("office;flower 0 1;", -27);
+        due("office;swap 6 0;", -22);
+        due("office;swap 0 6;", -24);
+        due("office;swap 3 3;", -24);
+        due("office;swap 3 03;", -24);
+        due("office;nights 0;", -24);
+        due("office;nights 00;", -24);
+        due("office;nights 100;", -24);
+        due("office;nights 1 1;", -26);
+        due("office;nights1", -24);
+        due("office;nights 1;night", -26);
+        due("office;nights 1;#", -26);
+        due("office;nights 1; " + (char) 127, -27);
+        due("office;nights 1; " + (char) 0, -27);
+        due("office 123", -17);
+        due("office;sleeper0 0;sleeper0 0;sleeper0 0;sleeper0 0;sleeper0 0;sleeper0 0;sleeper", -83);
+        due("office;flower0 1 0;flower0 1 0;flower0 1 0;flower0 1 0;flower0 1 0;flower0 1 0;flower", -89);
+        due("office;sleeper0 0;sleeper0 0;sleeper0 0;sleeper0 0;sleeper0 0;sleeper0 0;", 7);
+        due("office;flower0 1 0;flower0 1 0;flower0 1 0;flower0 1 0;flower0 1 0;flower0 1 0;", 7);
         StringBuilder many = new StringBuilder("office;");
         for (int k = 0; k < 17; k++) {
             many.append("swap0 1;");
         }
-        due(x, many + " ", 18);
-        due(x, many + "swap01;", -10 - 149);
+        due(many + " ", 18);
+        due(many + "swap01;", -10 - 149);
     }
 
     public static void main(String[] args) {

@@ -1,3 +1,4 @@
+import java.util.function.Supplier;
 import java.util.function.ToLongFunction;
 
 /** Each call that is refused changes nothing but STATUS, and STATUS by one; what asks changes nothing at all. */
@@ -6,20 +7,37 @@ final class RefusedTest {
     private static final int LEAST = Integer.MIN_VALUE, MOST = Integer.MAX_VALUE;
 
     // Of each object there is a twin on which nothing is tried.
+    private static Supplier<EarwigPost> given;
     private static EarwigPost post;
     private static EarwigPost twin;
+    private static int tried;
+
+    private static void begin(Supplier<EarwigPost> from) {
+        given = from;
+        post = given.get();
+        twin = given.get();
+        tried = 0;
+    }
+
+    /** An object is promised for 512 calls, and each try takes eight: then it goes on with two new ones. */
+    private static void oneMore() {
+        tried++;
+        if (tried > 30) {
+            dueAsTwin();
+            begin(given);
+        }
+    }
 
     private static void full() {
-        post = Given.full();
-        twin = Given.full();
+        begin(Given::full);
     }
 
     private static void empty() {
-        post = new EarwigPost();
-        twin = new EarwigPost();
+        begin(EarwigPost::new);
     }
 
     private static void refused(String name, int told, int answer, ToLongFunction<EarwigPost> call) {
+        oneMore();
         int[] status = {post.status(0), post.status(1), post.status(2)};
         Check.due(name, call.applyAsLong(post), answer);
         int counts = BAD - told;
@@ -35,6 +53,7 @@ final class RefusedTest {
 
     /** Nothing is refused here, so that STATUS stays, too. */
     private static void asked(String name, ToLongFunction<EarwigPost> call) {
+        oneMore();
         int refusals = post.status(0) + post.status(1) + post.status(2);
         long once = call.applyAsLong(post);
         Check.due(name + ": the same again", call.applyAsLong(post), once);
@@ -44,7 +63,6 @@ final class RefusedTest {
 
     /** What a digest doesn't tell: the text, what may be undone, the images. */
     private static void dueAsTwin() {
-        Check.due("read()", post.read(), twin.read());
         for (int k = 0; k < 9; k++) {
             Check.due("undo()", post.undo(), twin.undo());
             Check.due("digest() behind undo()", post.digest(), twin.digest());
@@ -53,6 +71,8 @@ final class RefusedTest {
             Check.due("from(" + i + ")", post.from(i), twin.from(i));
             Check.due("digest() behind from(" + i + ")", post.digest(), twin.digest());
         }
+        Check.due("read()", post.read(), twin.read());
+        Check.due("digest() behind read()", post.digest(), twin.digest());
     }
 
     private static void badOffice() {
@@ -254,13 +274,14 @@ final class RefusedTest {
 
         Check.says("STATUS: how many calls were refused as BAD, NO, FULL (each answer told so below is such a one).");
         empty();
-        for (int k = 1; k <= 100; k++) {
-            refused("BAD again", BAD, x -> x.sleeper(-1));
-            refused("NO again", NO, x -> x.undo());
+        for (int k = 1; k <= 250; k++) {
+            post.sleeper(-1);
+            post.undo();
         }
-        Check.due("status(0)", post.status(0), 100);
-        Check.due("status(1)", post.status(1), 100);
+        Check.due("status(0)", post.status(0), 250);
+        Check.due("status(1)", post.status(1), 250);
         Check.due("status(2)", post.status(2), 0);
+        Check.due("digest()", post.digest(), twin.digest());
     }
 
     private static void asking() {
@@ -288,6 +309,12 @@ final class RefusedTest {
             asked("decades", x -> x.decades(i, 60));
             asked("count", x -> x.count(i));
         }
+        dueAsTwin();
+        full();
+        post.clear();
+        twin.clear();
+        post.type('x');
+        twin.type('x');
         asked("a fault", x -> x.read());
         twin.slips(0, 7);
         asked("slips, but for the fraction", x -> x.slips(0, 7));
