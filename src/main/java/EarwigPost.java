@@ -489,7 +489,7 @@ public final class EarwigPost {
         return ((set >> k) & 1) != 0;
     }
 
-    // How loud a flower of a kind tells a word w in night n.
+    // Kinds stand under one another: what the upper ones tell is worked out ahead, as the lower ones build on it.
     private static int loudness(int kind, int w, int n) {
         int dahlia = w;
         int lily = dahlia + 2;
@@ -510,7 +510,7 @@ public final class EarwigPost {
         }
     }
 
-    // How much a sleeper of a kind, with wool c, believes of what is told x loud.
+    // Kinds stand under one another here, too: deaf and politician are plain with something done to it.
     private static int belief(int kind, int x, int c) {
         int plain = x > c ? x - c : 0;
         int deaf = plain / 2;
